@@ -308,25 +308,29 @@ public final class Claimtower {
 
     public int event(int year, int nth, int what)
             throws IndexOutOfBoundsException, IllegalArgumentException {
-        needEvent(year, nth);
+        settle();
+        needIndex(isEvent(year, nth));
         needArgument(isBetween(what, 0, EVENT_FACTS - 1));
         return bookOf(year).fact(nth, what);
     }
 
     public int part(int year, int nth, int insurer) throws IndexOutOfBoundsException {
-        needEvent(year, nth);
+        settle();
+        needIndex(isEvent(year, nth));
         needIndex(isBetween(insurer, 0, now.insurers - 1));
         return bookOf(year).partOf(nth, insurer);
     }
 
     public int taken(int year, int nth, int contract) throws IndexOutOfBoundsException {
-        needEvent(year, nth);
+        settle();
+        needIndex(isEvent(year, nth));
         needIndex(isBetween(contract, 0, now.contracts - 1));
         return bookOf(year).takenBy(nth, contract);
     }
 
     public String why(int year, int nth) throws IndexOutOfBoundsException {
-        needEvent(year, nth);
+        settle();
+        needIndex(isEvent(year, nth));
         text.setLength(0);
         bookOf(year).writeReasons(text, now, nth);
         return text.toString();
@@ -499,12 +503,6 @@ public final class Claimtower {
         return it;
     }
 
-    private void needEvent(int year, int nth) {
-        needIndex(isYear(year));
-        settle();
-        needIndex(isBetween(nth, 0, bookOf(year).events - 1));
-    }
-
     private static boolean isBetween(int number, int least, int greatest) {
         return number >= least && number <= greatest;
     }
@@ -515,6 +513,11 @@ public final class Claimtower {
 
     private static boolean isYear(int year) {
         return isBetween(year, 0, YEARS - 1);
+    }
+
+    /** The YEAR has to be settled. */
+    private boolean isEvent(int year, int nth) {
+        return isYear(year) && isBetween(nth, 0, bookOf(year).events - 1);
     }
 
     private static boolean isPlace(int place) {
@@ -832,7 +835,9 @@ public final class Claimtower {
         }
 
         void add(int at, int more) {
-            put(at, get(at) + more);
+            if (at >= 0 && at < cells.length) {
+                cells[at] += more;
+            }
         }
 
         void fill(int number) {
@@ -1073,11 +1078,6 @@ public final class Claimtower {
             return (failed >> insurer & 1) == 1;
         }
 
-        int dayOf(int loss) {
-            Loss it = lossAt(loss);
-            return it == null ? 0 : it.day;
-        }
-
         int kindOf(int loss) {
             Loss it = lossAt(loss);
             return it == null ? 0 : it.kind;
@@ -1096,19 +1096,15 @@ public final class Claimtower {
         }
 
         int paidOf(int gross) {
-            return Math.min(gross - ownPartOf(gross), policy.get(EVENT_BOUND));
-        }
-
-        private int ownPartOf(int gross) {
-            int own = policy.get(OWN);
             int mode = policy.get(OWN_MODE);
+            long own = policy.get(OWN);
             if (mode == 1) {
-                return (int) Math.min(gross, ((long) gross * own + 99) / 100);
+                own = (gross * own + 99) / 100;
+            } else if (mode == 2 && gross > policy.get(LINE)) {
+                own = 0;
             }
-            if (mode == 2 && gross > policy.get(LINE)) {
-                return 0;
-            }
-            return Math.min(gross, own);
+            int ownPart = (int) Math.min(gross, own);
+            return Math.min(gross - ownPart, policy.get(EVENT_BOUND));
         }
     }
 
@@ -1251,7 +1247,6 @@ public final class Claimtower {
             } else {
                 takeByNumbers(state, amount);
             }
-            passOnFailed(state);
         }
 
         private static int allSums(State state) {
@@ -1277,7 +1272,7 @@ public final class Claimtower {
             }
         }
 
-        private void passOnFailed(State state) {
+        void passOnFailed(State state) {
             int open = 0;
             rooms.fill(0);
             for (int i = 0; i < state.insurers; i++) {
@@ -1324,7 +1319,7 @@ public final class Claimtower {
             rests.put(best, NONE);
         }
 
-        /** SPREAD in addition to the parts, many coins at once: till a room is full, or the rest is below one each. */
+        /** SPREAD in addition to the parts; many coins at once, as up to 99999 by one would be slow. */
         private void spread(int amount, int count) {
             int left = amount;
             for (int round = 0; left > 0 && round < count + 2; round++) {
@@ -1369,6 +1364,8 @@ public final class Claimtower {
         /** What each CONTRACT took in the YEAR. */
         final Row took = new Row(MOST_CONTRACTS);
         private int year = 0;
+        /** The DAYS of the LOSSES in ORDER. */
+        private final Row days = new Row(LOSS_ROOM);
         /** For each LOSS the first one of its EVENT. */
         private final Row leaders = new Row(LOSS_ROOM);
         private final Row facts = new Row(LOSS_ROOM * EVENT_FACTS);
@@ -1444,16 +1441,18 @@ public final class Claimtower {
                 }
             }
             if (state.coveredOf(it) > 0) {
-                putInOrder(state, it.day, loss);
+                putInOrder(it.day, loss);
             }
         }
 
-        private void putInOrder(State state, int day, int loss) {
+        private void putInOrder(int day, int loss) {
             int at = counting;
-            while (at > 0 && state.dayOf(order.get(at - 1)) > day) {
+            while (at > 0 && days.get(at - 1) > day) {
+                days.put(at, days.get(at - 1));
                 order.put(at, order.get(at - 1));
                 at--;
             }
+            days.put(at, day);
             order.put(at, loss);
             counting++;
         }
@@ -1557,6 +1556,7 @@ public final class Claimtower {
         void shareOut(State state, Sharing sharing) {
             for (int nth = 0; nth < events; nth++) {
                 sharing.shareDue(state, fact(nth, EVENT_DUE));
+                sharing.passOnFailed(state);
                 for (int i = 0; i < MOST_INSURERS; i++) {
                     parts.put(nth * MOST_INSURERS + i, sharing.parts.get(i));
                 }
