@@ -1185,8 +1185,12 @@ public final class Claimtower {
 
         int heldPaid() {
             int all = 0;
-            for (int first = 0; first < count; first += sizeFrom(first)) {
-                all += paids.get(first * LOSS_ROOM + first + sizeFrom(first) - 1);
+            int next = 0;
+            for (int i = 0; i < count; i++) {
+                if (i == next) {
+                    next += sizeFrom(i);
+                    all += paids.get(i * LOSS_ROOM + next - 1);
+                }
             }
             return all;
         }
