@@ -1,26 +1,35 @@
 import java.lang.reflect.InvocationTargetException;
 import java.lang.reflect.Method;
+import java.lang.reflect.Modifier;
 import java.util.Arrays;
+import java.util.HashMap;
+import java.util.Map;
 
 /** Calls methods by their names and tells the answers; an exception answers "throws." and its exact class. */
 final class Calls {
+    private static final Map<Class<?>, Map<String, Method>> METHODS = new HashMap<>();
     private static int wrong = 0;
     private static int checked = 0;
 
     private Calls() {
     }
 
-    static Object answer(Object of, String name, Object... arguments) {
-        Method method = null;
-        for (Method each : of.getClass().getDeclaredMethods()) {
-            boolean isCallable = !java.lang.reflect.Modifier.isPrivate(each.getModifiers());
-            if (isCallable && each.getName().equals(name)) {
-                method = each;
+    private static Method method(Class<?> of, String name) {
+        Map<String, Method> methods = METHODS.computeIfAbsent(of, c -> new HashMap<>());
+        if (methods.isEmpty()) {
+            for (Method each : of.getDeclaredMethods()) {
+                if (!Modifier.isPrivate(each.getModifiers())) {
+                    each.setAccessible(true);
+                    methods.put(each.getName(), each);
+                }
             }
         }
+        return methods.get(name);
+    }
+
+    static Object answer(Object of, String name, Object... arguments) {
         try {
-            method.setAccessible(true);
-            return method.invoke(of, arguments);
+            return method(of.getClass(), name).invoke(of, arguments);
         } catch (InvocationTargetException e) {
             return "throws." + e.getCause().getClass().getSimpleName();
         } catch (IllegalAccessException e) {

@@ -1,48 +1,12 @@
 /** A test for each promise of the document: ordinary calls, the edges that it names, and wrong inputs. */
 public final class ClaimtowerTest {
-    private static final int MIN = Integer.MIN_VALUE;
-    private static final int MAX = Integer.MAX_VALUE;
-    private static final String INDEX = "throws.IndexOutOfBoundsException";
-    private static final String ARGUMENT = "throws.IllegalArgumentException";
-    private static final String STATE = "throws.IllegalStateException";
+    private static final int MIN = Run.MIN;
+    private static final int MAX = Run.MAX;
+    private static final String INDEX = Run.INDEX;
+    private static final String ARGUMENT = Run.ARGUMENT;
+    private static final String STATE = Run.STATE;
 
-    private final String promise;
-    private Claimtower tower = new Claimtower();
-
-    private ClaimtowerTest(String promise) {
-        this.promise = promise;
-    }
-
-    /** The call answers what is due. */
-    private ClaimtowerTest due(Object due, String name, Object... arguments) {
-        Calls.check("promise " + promise + ": " + Calls.told(name, arguments), Calls.answer(tower, name, arguments), due);
-        return this;
-    }
-
-    /** The call answers what is due and changes nothing. */
-    private ClaimtowerTest refused(Object due, String name, Object... arguments) {
-        long before = tower.digest();
-        due(due, name, arguments);
-        Calls.check("promise " + promise + ": digest behind " + Calls.told(name, arguments), tower.digest(), before);
-        return this;
-    }
-
-    private ClaimtowerTest loss(int number, int day, int place, int kind, int sum) {
-        return due(number, "loss", day, place, kind, sum, day);
-    }
-
-    private ClaimtowerTest twelveLosses() {
-        for (int i = 0; i < 12; i++) {
-            loss(i, 10 + i, 0, 0, 100);
-        }
-        return this;
-    }
-
-    private ClaimtowerTest sixContracts() {
-        for (int i = 0; i < 6; i++) {
-            due(i, "share", 10);
-        }
-        return this;
+    private ClaimtowerTest() {
     }
 
     public static void main(String[] args) {
@@ -68,14 +32,13 @@ public final class ClaimtowerTest {
         ofContract();
         wouldAndLate();
         triangle();
-        ultimateBeyondLong();
         house();
         soundAndDigest();
         Calls.end("promises");
     }
 
-    private static ClaimtowerTest of(String promise) {
-        return new ClaimtowerTest(promise);
+    private static Run of(String promise) {
+        return Run.of("promise " + promise);
     }
 
     private static void newObject() {
@@ -90,25 +53,25 @@ public final class ClaimtowerTest {
 
     private static void losses() {
         of("2").due(0, "loss", 0, 0, 0, 0, 0).due(1, "loss", 1459, 2, 2, 99999, 1459).due(2, "loss", 7, 1, 1, 5, 9).due(3, "house", 0);
-        ClaimtowerTest t = of("2").loss(0, 10, 0, 0, 100);
+        Run t = of("2").loss(0, 10, 0, 0, 100);
         int[][] wrong = {{-1, 0, 0, 0, 0}, {1460, 0, 0, 0, 1459}, {0, -1, 0, 0, 0}, {0, 3, 0, 0, 0}, {0, 0, -1, 0, 0}, {0, 0, 3, 0, 0},
             {0, 0, 0, -1, 0}, {0, 0, 0, 100000, 0}, {0, 0, 0, 0, -1}, {0, 0, 0, 0, 1460}, {5, 0, 0, 100000, 4}, {MIN, MAX, MIN, MAX, MIN}};
         for (int[] w : wrong) {
-            t.refused(ARGUMENT, "loss", w[0], w[1], w[2], w[3], w[4]);
+            t.unchanged(ARGUMENT, "loss", w[0], w[1], w[2], w[3], w[4]);
         }
-        t.refused(-8, "loss", 5, 0, 0, 1, 4);
-        of("2").twelveLosses().refused(STATE, "loss", 5, 0, 0, 1, 5).refused(STATE, "loss", 5, 0, 0, 1, 4)
-            .refused(ARGUMENT, "loss", 5, 0, 3, 1, 5).due(12, "house", 0);
+        t.unchanged(-8, "loss", 5, 0, 0, 1, 4);
+        of("2").twelveLosses().unchanged(STATE, "loss", 5, 0, 0, 1, 5).unchanged(STATE, "loss", 5, 0, 0, 1, 4)
+            .unchanged(ARGUMENT, "loss", 5, 0, 3, 1, 5).due(12, "house", 0);
     }
 
     private static void reports() {
         of("3").loss(0, 10, 0, 0, 100).due(2, "report", 0, 11, 300).due(3, "report", 0, 1459, 0)
             .due(0, "ofLoss", 0, 3).due(300, "sumAt", 0, 1458)
-            .refused(-8, "report", 0, 1459, 1).refused(-8, "report", 0, 0, 1)
-            .refused(INDEX, "report", 1, 1460, 1).refused(INDEX, "report", -1, 20, 1)
-            .refused(ARGUMENT, "report", 0, 1460, 1).refused(ARGUMENT, "report", 0, -1, 1)
-            .refused(ARGUMENT, "report", 0, 5, -1).refused(ARGUMENT, "report", 0, 5, 100000);
-        of("4").loss(0, 10, 0, 0, 100).refused(-9, "unreport", 0).refused(INDEX, "unreport", 1).refused(INDEX, "unreport", -1)
+            .unchanged(-8, "report", 0, 1459, 1).unchanged(-8, "report", 0, 0, 1)
+            .unchanged(INDEX, "report", 1, 1460, 1).unchanged(INDEX, "report", -1, 20, 1)
+            .unchanged(ARGUMENT, "report", 0, 1460, 1).unchanged(ARGUMENT, "report", 0, -1, 1)
+            .unchanged(ARGUMENT, "report", 0, 5, -1).unchanged(ARGUMENT, "report", 0, 5, 100000);
+        of("4").loss(0, 10, 0, 0, 100).unchanged(-9, "unreport", 0).unchanged(INDEX, "unreport", 1).unchanged(INDEX, "unreport", -1)
             .due(2, "report", 0, 20, 300).due(3, "report", 0, 30, 400).due(2, "unreport", 0).due(300, "ofLoss", 0, 3)
             .due(3, "report", 0, 21, 7).due(2, "unreport", 0).due(1, "unreport", 0).due(-9, "unreport", 0).due(100, "ofLoss", 0, 3);
     }
@@ -116,17 +79,17 @@ public final class ClaimtowerTest {
     private static void recoveriesAndToday() {
         of("5").loss(0, 10, 0, 0, 100).due(0, "recover", 0, 99999).due(100, "ofLoss", 0, 6).due(99999, "recover", 0, 30)
             .due(30, "ofLoss", 0, 6).due(30, "recover", 0, 0)
-            .refused(INDEX, "recover", 1, -1).refused(ARGUMENT, "recover", 0, -1).refused(ARGUMENT, "recover", 0, 100000);
+            .unchanged(INDEX, "recover", 1, -1).unchanged(ARGUMENT, "recover", 0, -1).unchanged(ARGUMENT, "recover", 0, 100000);
         of("6").due(1459, "today", 0).due(0, "today", 1459).due(1459, "today", 77).due(77, "house", 4)
-            .refused(ARGUMENT, "today", -1).refused(ARGUMENT, "today", 1460);
+            .unchanged(ARGUMENT, "today", -1).unchanged(ARGUMENT, "today", 1460);
     }
 
     private static void policy() {
         int[] least = {0, 0, 0, 0, 0, 0, 0, 0, 0, 0, 1, 1, 0, 0};
         int[] greatest = {2, 99999, 99999, 99999, 99999, 99999, 99999, 99999, 99999, 1459, 99999, 99999, 30, 99999};
         for (int what = 0; what < 14; what++) {
-            ClaimtowerTest t = of("7").refused(ARGUMENT, "policy", what, least[what] - 1).refused(ARGUMENT, "policy", what, greatest[what] + 1);
-            int before = t.tower.number(what);
+            Run t = of("7").unchanged(ARGUMENT, "policy", what, least[what] - 1).unchanged(ARGUMENT, "policy", what, greatest[what] + 1);
+            int before = (Integer) t.asked("number", what);
             t.due(before, "policy", what, least[what]).due(least[what], "policy", what, greatest[what]).due(greatest[what], "number", what);
             for (int other = 0; other < 14; other++) {
                 if (other != what) {
@@ -134,91 +97,56 @@ public final class ClaimtowerTest {
                 }
             }
         }
-        of("7").refused(INDEX, "policy", 14, -1).refused(INDEX, "policy", -1, -1);
-        of("8").due(0, "rule", 2).due(2, "rule", 1).due(1, "house", 6).refused(ARGUMENT, "rule", 3).refused(ARGUMENT, "rule", -1);
+        of("7").unchanged(INDEX, "policy", 14, -1).unchanged(INDEX, "policy", -1, -1);
+        of("8").due(0, "rule", 2).due(2, "rule", 1).due(1, "house", 6).unchanged(ARGUMENT, "rule", 3).unchanged(ARGUMENT, "rule", -1);
     }
 
     private static void insurers() {
-        of("9").due(2, "insurer", 1).due(3, "insurer", 99999).refused(ARGUMENT, "insurer", 0).refused(ARGUMENT, "insurer", 100000)
-            .due(4, "insurer", 7).refused(STATE, "insurer", 7).refused(ARGUMENT, "insurer", 0).due(7, "sum", 3, 8);
+        of("9").due(2, "insurer", 1).due(3, "insurer", 99999).unchanged(ARGUMENT, "insurer", 0).unchanged(ARGUMENT, "insurer", 100000)
+            .due(4, "insurer", 7).unchanged(STATE, "insurer", 7).unchanged(ARGUMENT, "insurer", 0).due(7, "sum", 3, 8);
         of("10").due(2, "insurer", 40).due(40, "sum", 1, 50).due(50, "sum", 1, 1).due(99999, "sum", 0, 99999)
-            .refused(INDEX, "sum", 2, 0).refused(INDEX, "sum", -1, 5).refused(ARGUMENT, "sum", 1, 0).refused(ARGUMENT, "sum", 1, 100000);
-        of("11").due(0, "way", 3).due(3, "way", 1).due(1, "house", 5).refused(ARGUMENT, "way", 4).refused(ARGUMENT, "way", -1);
+            .unchanged(INDEX, "sum", 2, 0).unchanged(INDEX, "sum", -1, 5).unchanged(ARGUMENT, "sum", 1, 0).unchanged(ARGUMENT, "sum", 1, 100000);
+        of("11").due(0, "way", 3).due(3, "way", 1).due(1, "house", 5).unchanged(ARGUMENT, "way", 4).unchanged(ARGUMENT, "way", -1);
         of("12").due(2, "insurer", 40).due(0, "fail", 1, true).due(1, "fail", 1, true).due(2, "house", 9).due(0, "fail", 0, true)
             .due(3, "house", 9).due(1, "fail", 1, false).due(1, "house", 9).due(0, "fail", 1, false)
-            .refused(INDEX, "fail", 2, true).refused(INDEX, "fail", -1, false);
+            .unchanged(INDEX, "fail", 2, true).unchanged(INDEX, "fail", -1, false);
     }
 
     private static void contracts() {
-        of("13").refused(ARGUMENT, "share", 0).refused(ARGUMENT, "share", 100).due(0, "share", 1).due(1, "share", 99)
+        of("13").unchanged(ARGUMENT, "share", 0).unchanged(ARGUMENT, "share", 100).due(0, "share", 1).due(1, "share", 99)
             .due("share 99", "contract", 1);
-        of("13").sixContracts().refused(STATE, "share", 5).refused(ARGUMENT, "share", 0);
-        ClaimtowerTest t = of("14");
+        of("13").sixContracts().unchanged(STATE, "share", 5).unchanged(ARGUMENT, "share", 0);
+        Run t = of("14");
         int[][] wrong = {{-1, 1, 0, 0}, {100000, 1, 0, 0}, {0, 0, 0, 0}, {0, 100000, 0, 0}, {0, 1, -1, 0}, {0, 1, 10, 0}, {0, 1, 0, -1}, {0, 1, 0, 1000}};
         for (int[] w : wrong) {
-            t.refused(ARGUMENT, "layer", w[0], w[1], w[2], w[3]);
+            t.unchanged(ARGUMENT, "layer", w[0], w[1], w[2], w[3]);
         }
-        t.due(0, "layer", 100, 50, 0, 0).refused(-8, "layer", 149, 1, 0, 0).refused(-8, "layer", 51, 50, 0, 0).refused(-8, "layer", 0, 99999, 0, 0)
-            .refused(-8, "layer", 110, 5, 0, 0).due(1, "layer", 150, 10, 9, 999).due(2, "layer", 50, 50, 1, 1)
-            .refused(-8, "layer", 120, 1, 0, 0).due(3, "share", 10).due(4, "layer", 100, 50, 0, 0).due("layer 150+10*9@999", "contract", 1);
-        t.due(5, "layer", 0, 100, 0, 0).refused(STATE, "layer", 100, 50, 0, 0).refused(ARGUMENT, "layer", 100, 0, 0, 0);
-        of("15").refused(ARGUMENT, "stop", -1, 1).refused(ARGUMENT, "stop", 100000, 1).refused(ARGUMENT, "stop", 0, 0)
-            .refused(ARGUMENT, "stop", 0, 100000).due(0, "stop", 0, 1).due(1, "stop", 99999, 99999).due("stop 99999+99999", "contract", 1);
-        of("15").sixContracts().refused(STATE, "stop", 0, 1).refused(ARGUMENT, "stop", 0, 0);
+        t.due(0, "layer", 100, 50, 0, 0).unchanged(-8, "layer", 149, 1, 0, 0).unchanged(-8, "layer", 51, 50, 0, 0).unchanged(-8, "layer", 0, 99999, 0, 0)
+            .unchanged(-8, "layer", 110, 5, 0, 0).due(1, "layer", 150, 10, 9, 999).due(2, "layer", 50, 50, 1, 1)
+            .unchanged(-8, "layer", 120, 1, 0, 0).due(3, "share", 10).due(4, "layer", 100, 50, 0, 0).due("layer 150+10*9@999", "contract", 1);
+        t.due(5, "layer", 0, 100, 0, 0).unchanged(STATE, "layer", 100, 50, 0, 0).unchanged(ARGUMENT, "layer", 100, 0, 0, 0);
+        of("15").unchanged(ARGUMENT, "stop", -1, 1).unchanged(ARGUMENT, "stop", 100000, 1).unchanged(ARGUMENT, "stop", 0, 0)
+            .unchanged(ARGUMENT, "stop", 0, 100000).due(0, "stop", 0, 1).due(1, "stop", 99999, 99999).due("stop 99999+99999", "contract", 1);
+        of("15").sixContracts().unchanged(STATE, "stop", 0, 1).unchanged(ARGUMENT, "stop", 0, 0);
     }
 
     private static void unsign() {
-        of("16").refused(-9, "unsign").sixContracts().due(5, "unsign").due(4, "unsign").due(4, "house", 2).due(4, "stop", 5, 6)
-            .due("stop 5+6", "contract", 4).refused(INDEX, "contract", 5);
+        of("16").unchanged(-9, "unsign").sixContracts().due(5, "unsign").due(4, "unsign").due(4, "house", 2).due(4, "stop", 5, 6)
+            .due("stop 5+6", "contract", 4).unchanged(INDEX, "contract", 5);
         // what unsign() took off comes back, also if another one stood in its place in between
         of("16").due(0, "share", 10).due(1, "stop", 1, 2).due(1, "unsign").due(1, "share", 77).due(3, "undo").due(2, "undo").due("stop 1+2", "contract", 1);
     }
 
     private static void undo() {
-        of("17").refused(STATE, "undo").due(-9, "unsign").refused(STATE, "undo").due(1, "knock").refused(STATE, "undo");
-        ClaimtowerTest t = of("17");
-        Object[][] calls = {{"loss", 400, 1, 2, 700, 401}, {"report", 0, 500, 900}, {"unreport", 0}, {"recover", 0, 50}, {"today", 600},
-            {"policy", 1, 20}, {"rule", 2}, {"insurer", 300}, {"sum", 0, 400}, {"way", 3}, {"fail", 0, true}, {"share", 30},
-            {"layer", 10, 90, 1, 40}, {"stop", 60, 70}, {"unsign"}, {"policy", 1, 20}};
-        long[] digests = new long[calls.length];
-        for (int i = 0; i < calls.length; i++) {
-            digests[i] = withoutUndos(t.tower);
-            Calls.answer(t.tower, (String) calls[i][0], java.util.Arrays.copyOfRange(calls[i], 1, calls[i].length));
-            t.due(Math.min(12, i + 1), "house", 3);
-        }
-        t.due(-8, "loss", 5, 0, 0, 1, 4).due(ARGUMENT, "way", 9).due(12, "house", 3);
-        for (int i = 0; i < 12; i++) {
-            t.due(11 - i, "undo");
-            Calls.check("promise 17: digest behind undo " + i, withoutUndos(t.tower), digests[calls.length - 1 - i]);
-        }
-        t.refused(STATE, "undo").due(1459, "today", 600).due(0, "undo").due(1459, "house", 4);
-    }
-
-    /** A checksum of what undo() brings back; the digest also counts how many can be undone. */
-    private static long withoutUndos(Claimtower tower) {
-        long all = 0;
-        for (int what = 0; what < 10; what++) {
-            all = all * 31 + (what == 3 ? 0 : tower.house(what));
-        }
-        for (int what = 0; what < 14; what++) {
-            all = all * 31 + tower.number(what);
-        }
-        for (int loss = 0; loss < tower.house(0); loss++) {
-            for (int what = 0; what < 9; what++) {
-                all = all * 31 + tower.ofLoss(loss, what);
-            }
-        }
-        for (int what = 0; what < 11; what++) {
-            all = all * 31 + tower.ofYear(1, what);
-        }
-        for (int contract = 0; contract < tower.house(2); contract++) {
-            all = all * 31 + tower.contract(contract).hashCode();
-        }
-        return all * 31 + tower.worst().hashCode();
+        of("17").unchanged(STATE, "undo").due(-9, "unsign").unchanged(STATE, "undo").due(1, "knock").unchanged(STATE, "undo");
+        of("17").undone(0, "loss", 400, 1, 2, 700, 401).undone(2, "report", 0, 500, 900).undone(1, "unreport", 0).undone(0, "recover", 0, 50)
+            .undone(1459, "today", 600).undone(0, "policy", 1, 20).undone(0, "rule", 2).undone(2, "insurer", 300).undone(300, "sum", 1, 400)
+            .undone(0, "way", 3).undone(0, "fail", 0, true).undone(0, "share", 30).undone(1, "layer", 10, 90, 1, 40).undone(2, "stop", 60, 70)
+            .undone(2, "unsign").due(-8, "loss", 5, 0, 0, 1, 4).due(ARGUMENT, "way", 9).due(12, "house", 3).undoneAgain(0);
     }
 
     private static void ofLoss() {
-        ClaimtowerTest t = of("18").due(0, "loss", 366, 2, 1, 100, 370).due(2, "report", 0, 380, 90).due(0, "recover", 0, 95)
+        Run t = of("18").due(0, "loss", 366, 2, 1, 100, 370).due(2, "report", 0, 380, 90).due(0, "recover", 0, 95)
             .due(1, "policy", 11, 4).due(1, "policy", 10, 3);
         int[] facts = {366, 2, 1, 90, 67, 2, 90, 1, 0};
         for (int what = 0; what < facts.length; what++) {
@@ -237,7 +165,7 @@ public final class ClaimtowerTest {
     }
 
     private static void partings() {
-        ClaimtowerTest t = of("20").loss(0, 12, 0, 0, 50).loss(1, 10, 0, 0, 100).loss(2, 12, 0, 0, 10).loss(3, 13, 0, 1, 80)
+        Run t = of("20").loss(0, 12, 0, 0, 50).loss(1, 10, 0, 0, 100).loss(2, 12, 0, 0, 10).loss(3, 13, 0, 1, 80)
             .loss(4, 14, 0, 1, 5).loss(5, 12, 1, 0, 5).loss(6, 375, 0, 0, 5).due("1 0 2 3|4", "parting", 0, 0);
         t.due("5", "parting", 0, 1).due("", "parting", 0, 2).due("6", "parting", 1, 0);
         // with OWN more than all, each PARTING pays 0: the fewest EVENTS, and the first one as long as can be
@@ -273,7 +201,7 @@ public final class ClaimtowerTest {
     }
 
     private static void events() {
-        ClaimtowerTest t = of("24").loss(0, 20, 2, 1, 300).loss(1, 10, 1, 0, 200).loss(2, 11, 0, 1, 100).loss(3, 12, 1, 1, 40)
+        Run t = of("24").loss(0, 20, 2, 1, 300).loss(1, 10, 1, 0, 200).loss(2, 11, 0, 1, 100).loss(3, 12, 1, 1, 40)
             .due(0, "recover", 3, 90).due(0, "policy", 1, 10).due(0, "policy", 3, 250).due(99999, "policy", 6, 350).due(99999, "policy", 8, 200);
         of("23").due(0, "events", 0).due(INDEX, "events", 4).due(INDEX, "events", -1);
         t.due(3, "events", 0).due(0, "events", 1).due(3, "house", 8);
@@ -293,7 +221,7 @@ public final class ClaimtowerTest {
 
     private static void recovered() {
         // WHOLE 300, OWED 200: the insured bears 100
-        ClaimtowerTest t = of("24").loss(0, 10, 0, 0, 100).loss(1, 10, 0, 0, 200).due(0, "policy", 1, 100).due(0, "recover", 0, 100)
+        Run t = of("24").loss(0, 10, 0, 0, 100).loss(1, 10, 0, 0, 200).due(0, "policy", 1, 100).due(0, "recover", 0, 100)
             .due(200, "event", 0, 0, 9).due(0, "recover", 1, 50).due(150, "event", 0, 0, 8).due(150, "event", 0, 0, 9);
         t.due(0, "rule", 1).due(50, "event", 0, 0, 9).due(1, "rule", 2).due(100, "event", 0, 0, 9).due(50, "recover", 1, 49)
             .due(101, "event", 0, 0, 9).due(2, "rule", 1).due(51, "event", 0, 0, 9).due(49, "recover", 1, 200).due(0, "event", 0, 0, 9)
@@ -304,30 +232,23 @@ public final class ClaimtowerTest {
         of("24").loss(0, 10, 0, 0, 99999).due(0, "policy", 1, 1).due(0, "rule", 2).due(0, "recover", 0, 99998).due(1, "event", 0, 0, 9);
     }
 
-    private ClaimtowerTest partsAre(int... parts) {
-        for (int i = 0; i < parts.length; i++) {
-            due(parts[i], "part", 0, 0, i);
-        }
-        return this;
-    }
-
     private static void parts() {
-        ClaimtowerTest t = of("25").due(99999, "sum", 0, 100).due(2, "insurer", 50).due(3, "insurer", 30).due(4, "insurer", 7)
-            .due(0, "loss", 10, 0, 0, 25, 10).partsAre(7, 6, 6, 6);
-        t.due(2, "report", 0, 11, 101).partsAre(32, 32, 30, 7).due(3, "report", 0, 12, 186).partsAre(99, 50, 30, 7)
-            .due(4, "report", 0, 13, 400).partsAre(100, 50, 30, 7);
-        t.due(0, "way", 1).partsAre(100, 50, 30, 7).due(3, "unreport", 0).partsAre(99, 50, 30, 7).due(2, "unreport", 0).partsAre(54, 27, 16, 4)
-            .due(1, "unreport", 0).partsAre(13, 7, 4, 1);
-        t.due(1, "way", 2).partsAre(8, 8, 7, 2).due(2, "report", 0, 11, 5).partsAre(2, 1, 1, 1).due(3, "report", 0, 12, 187).partsAre(100, 50, 30, 7);
-        t.due(2, "way", 3).partsAre(100, 50, 30, 7).due(2, "unreport", 0).partsAre(5, 0, 0, 0).due(3, "report", 0, 12, 120).partsAre(100, 20, 0, 0);
-        t.due(0, "fail", 0, true).partsAre(0, 50, 30, 7).due(0, "fail", 1, true).partsAre(0, 0, 30, 7).due(1, "fail", 0, false).partsAre(100, 0, 13, 7)
+        Run t = of("25").due(99999, "sum", 0, 100).due(2, "insurer", 50).due(3, "insurer", 30).due(4, "insurer", 7)
+            .due(0, "loss", 10, 0, 0, 25, 10).parts(7, 6, 6, 6);
+        t.due(2, "report", 0, 11, 101).parts(32, 32, 30, 7).due(3, "report", 0, 12, 186).parts(99, 50, 30, 7)
+            .due(4, "report", 0, 13, 400).parts(100, 50, 30, 7);
+        t.due(0, "way", 1).parts(100, 50, 30, 7).due(3, "unreport", 0).parts(99, 50, 30, 7).due(2, "unreport", 0).parts(54, 27, 16, 4)
+            .due(1, "unreport", 0).parts(13, 7, 4, 1);
+        t.due(1, "way", 2).parts(8, 8, 7, 2).due(2, "report", 0, 11, 5).parts(2, 1, 1, 1).due(3, "report", 0, 12, 187).parts(100, 50, 30, 7);
+        t.due(2, "way", 3).parts(100, 50, 30, 7).due(2, "unreport", 0).parts(5, 0, 0, 0).due(3, "report", 0, 12, 120).parts(100, 20, 0, 0);
+        t.due(0, "fail", 0, true).parts(0, 50, 30, 7).due(0, "fail", 1, true).parts(0, 0, 30, 7).due(1, "fail", 0, false).parts(100, 0, 13, 7)
             .due(120, "ofYear", 0, 2);
-        t.due(0, "fail", 0, true).due(0, "fail", 2, true).due(0, "fail", 3, true).partsAre(0, 0, 0, 0).due(120, "ofYear", 0, 1);
+        t.due(0, "fail", 0, true).due(0, "fail", 2, true).due(0, "fail", 3, true).parts(0, 0, 0, 0).due(120, "ofYear", 0, 1);
         t.due(INDEX, "part", 4, 0, 0).due(INDEX, "part", -1, 0, 0).due(INDEX, "part", 0, 1, 0).due(INDEX, "part", 0, -1, 0)
             .due(INDEX, "part", 0, 0, 4).due(INDEX, "part", 0, 0, -1);
         // the coins that are left go to the greatest rests; of those that are the same, to the one ahead
-        of("25").due(99999, "sum", 0, 10).due(2, "insurer", 10).due(3, "insurer", 10).due(0, "way", 1).loss(0, 1, 0, 0, 11).partsAre(4, 4, 3);
-        of("25").due(99999, "sum", 0, 10).due(2, "insurer", 25).due(3, "insurer", 15).due(0, "way", 1).loss(0, 1, 0, 0, 7).partsAre(1, 4, 2);
+        of("25").due(99999, "sum", 0, 10).due(2, "insurer", 10).due(3, "insurer", 10).due(0, "way", 1).loss(0, 1, 0, 0, 11).parts(4, 4, 3);
+        of("25").due(99999, "sum", 0, 10).due(2, "insurer", 25).due(3, "insurer", 15).due(0, "way", 1).loss(0, 1, 0, 0, 7).parts(1, 4, 2);
         // what a failed one would have is shared anew by EVENT
         of("25").due(99999, "sum", 0, 10).due(2, "insurer", 10).due(0, "fail", 1, true).loss(0, 1, 0, 0, 9).loss(1, 9, 0, 0, 9)
             .due(9, "part", 0, 0, 0).due(9, "part", 0, 1, 0).due(18, "paidBy", 0, 0).due(0, "paidBy", 1, 0);
@@ -335,7 +256,7 @@ public final class ClaimtowerTest {
     }
 
     private static void taken() {
-        ClaimtowerTest t = of("26").loss(0, 0, 0, 0, 500).loss(1, 100, 0, 0, 300).loss(2, 400, 0, 0, 500).due(0, "share", 15).due(1, "layer", 200, 150, 0, 10)
+        Run t = of("26").loss(0, 0, 0, 0, 500).loss(1, 100, 0, 0, 300).loss(2, 400, 0, 0, 500).due(0, "share", 15).due(1, "layer", 200, 150, 0, 10)
             .due(2, "layer", 100, 100, 9, 10).due(3, "share", 50).due(4, "stop", 100, 60);
         int[][] takes = {{75, 150, 100, 87, 0}, {45, 0, 100, 77, 60}};
         for (int nth = 0; nth < 2; nth++) {
@@ -364,7 +285,7 @@ public final class ClaimtowerTest {
     }
 
     private static void ofYear() {
-        ClaimtowerTest t = of("29").loss(0, 10, 0, 0, 500).loss(1, 20, 0, 0, 300).loss(2, 1, 0, 0, 50).due(0, "policy", 9, 5).due(0, "recover", 2, 20)
+        Run t = of("29").loss(0, 10, 0, 0, 500).loss(1, 20, 0, 0, 300).loss(2, 1, 0, 0, 50).due(0, "policy", 9, 5).due(0, "recover", 2, 20)
             .due(0, "recover", 0, 100).due(0, "policy", 1, 100).due(0, "policy", 3, 150).due(99999, "policy", 8, 1000).due(0, "policy", 13, 100)
             .due(0, "layer", 100, 50, 3, 7).due(99999, "sum", 0, 200).due(2, "insurer", 10);
         int[] facts = {850, 320, 410, 290, 100, 120, 4, 108, 14, 0, 550};
@@ -376,7 +297,7 @@ public final class ClaimtowerTest {
     }
 
     private static void steps() {
-        ClaimtowerTest t = of("29").due(0, "policy", 13, 99999).due(4, "ofYear", 0, 6).due(3, "ofYear", 1, 6).due(2, "ofYear", 2, 6).due(1, "ofYear", 3, 6)
+        Run t = of("29").due(0, "policy", 13, 99999).due(4, "ofYear", 0, 6).due(3, "ofYear", 1, 6).due(2, "ofYear", 2, 6).due(1, "ofYear", 3, 6)
             .due(109998, "ofYear", 0, 7).due(64999, "ofYear", 3, 7);
         t.loss(0, 0, 0, 0, 1).due(6, "ofYear", 1, 6).due(5, "ofYear", 2, 6).loss(1, 10, 0, 0, 1).due(8, "ofYear", 1, 6).loss(2, 20, 0, 0, 1)
             .due(9, "ofYear", 1, 6).due(184998, "ofYear", 1, 7).due(0, "recover", 0, 1).due(8, "ofYear", 1, 6);
@@ -386,7 +307,7 @@ public final class ClaimtowerTest {
     }
 
     private static void ofContract() {
-        ClaimtowerTest t = of("31").loss(0, 0, 0, 0, 90).loss(1, 10, 0, 0, 90).loss(2, 20, 0, 0, 90).due(0, "layer", 20, 40, 1, 99)
+        Run t = of("31").loss(0, 0, 0, 0, 90).loss(1, 10, 0, 0, 90).loss(2, 20, 0, 0, 90).due(0, "layer", 20, 40, 1, 99)
             .due(1, "layer", 60, 20, 9, 7).due(2, "share", 50).due(3, "stop", 30, 70);
         int[][] facts = {{80, 99, 0}, {60, 21, -1}, {65, 0, -1}, {35, 0, 35}};
         for (int contract = 0; contract < 4; contract++) {
@@ -407,20 +328,20 @@ public final class ClaimtowerTest {
     private static void wouldAndLate() {
         of("33").loss(0, 0, 0, 0, 15).loss(1, 10, 0, 0, 15).due(28, "would", 0, 10).due(16, "would", 0, 50).due(2, "would", 0, 99).due(30, "would", 0, 1)
             .due(0, "would", 1, 50).due(INDEX, "would", 4, 0).due(INDEX, "would", -1, 5).due(ARGUMENT, "would", 0, 0).due(ARGUMENT, "would", 0, 100);
-        of("33").loss(0, 0, 0, 0, 1000).sixContracts().refused(533 - 53, "would", 0, 10);
-        of("34").loss(0, 10, 0, 0, 100).due(0, "policy", 1, 30).refused(50, "late", 12, 0, 0, 50).refused(20, "late", 12, 1, 0, 50)
-            .refused(0, "late", 12, 1, 0, 0).due(1459, "today", 10).refused(20, "late", 900, 0, 0, 50).due(0, "policy", 9, 20)
-            .refused(0, "late", 19, 0, 0, 50).refused(20, "late", 20, 0, 0, 50).due(20, "policy", 9, 0);
-        of("34").twelveLosses().refused(70, "late", 0, 1, 1, 70);
+        of("33").loss(0, 0, 0, 0, 1000).sixContracts().unchanged(533 - 53, "would", 0, 10);
+        of("34").loss(0, 10, 0, 0, 100).due(0, "policy", 1, 30).unchanged(50, "late", 12, 0, 0, 50).unchanged(20, "late", 12, 1, 0, 50)
+            .unchanged(0, "late", 12, 1, 0, 0).due(1459, "today", 10).unchanged(20, "late", 900, 0, 0, 50).due(0, "policy", 9, 20)
+            .unchanged(0, "late", 19, 0, 0, 50).unchanged(20, "late", 20, 0, 0, 50).due(20, "policy", 9, 0);
+        of("34").twelveLosses().unchanged(70, "late", 0, 1, 1, 70);
         // less NETS: with the late one ahead the EVENT is of a KIND of which nothing is kept
-        of("34").loss(0, 10, 0, 0, 100).due(99999, "policy", 6, 0).refused(-100, "late", 9, 0, 1, 5).refused(0, "late", 11, 1, 1, 5)
-            .refused(5, "late", 11, 0, 1, 5);
+        of("34").loss(0, 10, 0, 0, 100).due(99999, "policy", 6, 0).unchanged(-100, "late", 9, 0, 1, 5).unchanged(0, "late", 11, 1, 1, 5)
+            .unchanged(5, "late", 11, 0, 1, 5);
         of("34").due(ARGUMENT, "late", -1, 0, 0, 0).due(ARGUMENT, "late", 1460, 0, 0, 0).due(ARGUMENT, "late", 0, 3, 0, 0).due(ARGUMENT, "late", 0, -1, 0, 0)
             .due(ARGUMENT, "late", 0, 0, 3, 0).due(ARGUMENT, "late", 0, 0, -1, 0).due(ARGUMENT, "late", 0, 0, 0, 100000).due(ARGUMENT, "late", 0, 0, 0, -1);
     }
 
     private static void triangle() {
-        ClaimtowerTest t = of("35").due(0, "loss", 0, 0, 0, 100, 10).due(2, "report", 0, 365, 150).due(3, "report", 0, 1459, 90)
+        Run t = of("35").due(0, "loss", 0, 0, 0, 100, 10).due(2, "report", 0, 365, 150).due(3, "report", 0, 1459, 90)
             .due(1, "loss", 370, 1, 0, 200, 730).due(2, "loss", 1459, 1, 0, 8, 1459);
         int[][] cums = {{100, 150, 150, 90}, {0, 200, 200, -1}, {0, 0, -1, -1}, {8, -1, -1, -1}};
         for (int year = 0; year < 4; year++) {
@@ -443,37 +364,6 @@ public final class ClaimtowerTest {
             .due("-21474836.48", "money", MIN).due("21474836.47", "money", MAX).due("-1.00", "money", -100);
     }
 
-    private static void ultimateBeyondLong() {
-        ClaimtowerTest t = of("37");
-        for (int i = 0; i < 3; i++) {
-            t.due(i, "loss", 1200, 0, 0, 99999 - i, 1200);
-        }
-        for (int i = 3; i < 9; i++) {
-            t.due(i, "loss", 10, 0, 0, 1 + i % 2, 10).due(2, "report", i, 700, 99990 - 3 * i).due(3, "report", i, 1000, 99979 - 7 * i).due(4, "report", i, 1400, 99998 - i);
-        }
-        t.due(9, "loss", 400, 0, 0, 3, 400).due(2, "report", 9, 1000, 99991).due(3, "report", 9, 1400, 99989);
-        t.due(10, "loss", 800, 0, 0, 1, 800).due(2, "report", 10, 1400, 99961);
-        java.math.BigInteger top = java.math.BigInteger.valueOf(t.tower.cum(3, 0));
-        java.math.BigInteger bottom = java.math.BigInteger.ONE;
-        for (int age = 0; age < 3; age++) {
-            for (int part = 0; part < 2; part++) {
-                long sum = 0;
-                for (int year = 0; year + age < 3; year++) {
-                    sum += t.tower.cum(year, age + 1 - part);
-                }
-                top = part == 0 ? top.multiply(java.math.BigInteger.valueOf(sum)) : top;
-                bottom = part == 1 ? bottom.multiply(java.math.BigInteger.valueOf(sum)) : bottom;
-            }
-        }
-        java.math.BigInteger common = top.gcd(bottom);
-        Calls.check("the top is above the greatest long", top.divide(common).bitLength() > 63, true);
-        t.due(top.divide(common) + "/" + bottom.divide(common), "ultimate", 3);
-        // digits that are 0 in the middle of a long top are written, too
-        of("37").due(0, "loss", 10, 0, 0, 1, 10).due(2, "report", 0, 1459, 50000).due(1, "loss", 400, 0, 0, 99999, 1200)
-            .due(2, "loss", 800, 0, 0, 99999, 1200).due(3, "loss", 1200, 0, 0, 80000, 1200).due("100000", "growth", 0).due("100000", "growth", 1)
-            .due("50000", "growth", 2).due("40000000000000000000", "ultimate", 3);
-    }
-
     private static void house() {
         of("39").loss(0, 10, 0, 0, 100).loss(1, 10, 1, 0, 0).loss(2, 500, 1, 0, 5).due(2, "insurer", 5).due(0, "share", 5).due(1459, "today", 600)
             .due(0, "way", 2).due(0, "rule", 1).due(0, "fail", 1, true).due(1, "knock").due(2, "knock").due(3, "house", 0).due(2, "house", 1)
@@ -487,9 +377,9 @@ public final class ClaimtowerTest {
         of("42").due(true, "isSound").twelveLosses().due(3, "policy", 12, 30).due(0, "policy", 1, 7).due(0, "policy", 0, 1).due(0, "policy", 3, 50)
             .due(0, "stop", 10, 200).due(1, "layer", 0, 100, 0, 7).due(true, "isSound");
         of("43").due(-1479702987025091728L, "digest").due(-1479702987025091728L, "digest");
-        ClaimtowerTest t = of("43").loss(0, 400, 1, 2, 130);
-        long one = t.tower.digest();
+        Run t = of("43").loss(0, 400, 1, 2, 130);
+        Object one = t.asked("digest");
         t.due(1, "knock");
-        Calls.check("promise 43: a knock changes the digest", t.tower.digest() != one, true);
+        Calls.check("promise 43: a knock changes the digest", t.asked("digest").equals(one), false);
     }
 }
