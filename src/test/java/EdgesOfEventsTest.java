@@ -349,6 +349,7 @@ public final class EdgesOfEventsTest {
             .due(0, "recover", 0, 1).eachEvent(DUE, 50).due(1, "recover", 0, 3).eachEvent(DUE, 49).set(OWN, 49).eachEvent(DUE, 49).set(OWN, 51).eachEvent(DUE, 48);
         of("Products are as great as they are: RULE 2").loss(0, 9, 0, 0, 99999).set(OWN, 50000).due(0, "rule", 2).due(0, "recover", 0, 99998).eachEvent(DUE, 0)
             .set(OWN, 1).eachEvent(DUE, 1).set(OWN, 99998).eachEvent(DUE, 0);
+        of("2 their part of it: of one coin").loss(0, 9, 0, 0, 1).due(0, "rule", 2).due(0, "recover", 0, 1).eachEvent(DUE, 0).set(OWN, 1).eachEvent(DUE, 0).eachEvent(OWED, 0);
         // only by these two, whatever was SPLIT by the SUMS of three ahead of it
         of("2 their part of it SPLIT by WHOLE less OWED, and OWED: nobody else's").sums(500, 500, 500).due(0, "way", 1).due(0, "rule", 2).set(OWN, 40).loss(0, 9, 0, 0, 100)
             .loss(1, 400, 0, 0, 100).due(0, "recover", 0, 50).due(0, "recover", 1, 50).due(30, "event", 0, 0, DUE).due(30, "event", 1, 0, DUE)
@@ -375,6 +376,9 @@ public final class EdgesOfEventsTest {
             .due(19, "today", 20).due(50, "late", 5, 0, 0, 50);
         of("or there are 12").twelveLosses().set(OWN, 30).due(70, "late", 22, 0, 0, 100).due(100, "late", 21, 0, 0, 100).due(100, "late", 10, 0, 0, 100)
             .due(20, "late", 300, 2, 2, 50).set(SPAN, 30).due(99999 - 1170, "late", 9, 0, 0, 99999).due(1, "late", 400, 0, 0, 31).due(12, "house", 0);
+        // the thirteenth is an EVENT of its own, as one with others would be above the bound
+        of("or there are 12: all in one PLACE").twelveLosses().set(EVENT_BOUND, 100).set(SPAN, 30).due(100, "late", 22, 0, 0, 100).due(99, "late", 9, 0, 0, 99)
+            .due(100, "late", 15, 0, 0, 101);
         of("behind the others").loss(0, 9, 0, 0, 50).set(KIND_BOUND + 1, 0).due(0, "late", 9, 1, 1, 20).due(20, "late", 9, 0, 1, 20).due(-50, "late", 8, 0, 1, 20);
         of("by how much all NETS of its YEAR would be more (or less)").loss(0, 9, 0, 0, 50).loss(1, 400, 0, 0, 70).set(YEAR_BOUND, 60).due(10, "late", 20, 0, 0, 99999)
             .due(0, "late", 20, 0, 0, 0).due(0, "late", 410, 0, 0, 5).due(60, "late", 800, 0, 0, 99999).due(0, "share", 50).due(5, "late", 20, 0, 0, 99999);

@@ -107,6 +107,8 @@ public final class EdgesOfPayersTest {
     private static void splitRests() {
         of("the coins that are left go one each to those with the greatest rests").sums(10, 25, 15).due(0, "way", 1).loss(0, 9, 0, 0, 7).parts(1, 4, 2)
             .due(2, "report", 0, 10, 3).parts(1, 1, 1).due(3, "report", 0, 11, 1).parts(0, 1, 0);
+        of("amount * weight / sum").sums(1, 6).due(0, "way", 1).loss(0, 9, 0, 0, 3).parts(0, 3).due(2, "report", 0, 10, 4).parts(1, 3).due(3, "report", 0, 11, 7).parts(1, 6);
+        of("SPLIT by weights (their sum above 0): 1").sums(1).due(0, "way", 1).loss(0, 9, 0, 0, 1).parts(1).due(1, "way", 2).parts(1).due(2, "report", 0, 10, 2).parts(1);
         of("of several to the one ahead").sums(10, 10, 10).due(0, "way", 1).loss(0, 9, 0, 0, 1).parts(1, 0, 0).due(2, "report", 0, 10, 2).parts(1, 1, 0)
             .due(3, "report", 0, 11, 29).parts(10, 10, 9);
         of("one each").sums(1, 1, 1, 99).due(0, "way", 1).loss(0, 9, 0, 0, 51).parts(1, 1, 0, 49).due(2, "report", 0, 10, 34).parts(1, 0, 0, 33)
@@ -234,6 +236,7 @@ public final class EdgesOfPayersTest {
         t.due(84, "ofContract", 0, 0, 1).due(600, "ofContract", 0, 0, 0).due(56, "ofContract", 2, 0, 1).due(450, "ofContract", 2, 0, 0).due(140, "ofYear", 0, 8);
         of("PRICE: / WIDE, rounded down").loss(0, 9, 0, 0, 15).due(0, "layer", 0, 40, 9, 10).due(3, "ofContract", 0, 0, 1).due(1, "layer", 40, 40, 9, 0).due(0, "ofContract", 1, 0, 1)
             .due(2, "report", 0, 10, 40).due(10, "ofContract", 0, 0, 1).due(3, "report", 0, 11, 3).due(0, "ofContract", 0, 0, 1);
+        of("PRICE: a WIDE of 1").loss(0, 9, 0, 0, 15).due(0, "layer", 14, 1, 1, 7).due(7, "ofContract", 0, 0, 1).due(1, "layer", 15, 1, 1, 7).due(0, "ofContract", 1, 0, 1);
         // PRICES are rounded down one by one
         of("PRICES of all LAYERS").loss(0, 9, 0, 0, 15).due(0, "layer", 0, 2, 9, 1).due(1, "layer", 10, 10, 9, 1).due(2, "layer", 2, 8, 9, 3).due(1, "ofContract", 0, 0, 1)
             .due(0, "ofContract", 1, 0, 1).due(3, "ofContract", 2, 0, 1).due(4, "ofYear", 0, 8).due(0, "ofYear", 1, 8);
