@@ -352,8 +352,8 @@ public final class EdgesOfEventsTest {
         of("2 their part of it: of one coin").loss(0, 9, 0, 0, 1).due(0, "rule", 2).due(0, "recover", 0, 1).eachEvent(DUE, 0).set(OWN, 1).eachEvent(DUE, 0).eachEvent(OWED, 0);
         // only by these two, whatever was SPLIT by the SUMS of three ahead of it
         of("2 their part of it SPLIT by WHOLE less OWED, and OWED: nobody else's").sums(500, 500, 500).due(0, "way", 1).due(0, "rule", 2).set(OWN, 40).loss(0, 9, 0, 0, 100)
-            .loss(1, 400, 0, 0, 100).due(0, "recover", 0, 50).due(0, "recover", 1, 50).due(30, "event", 0, 0, DUE).due(30, "event", 1, 0, DUE)
-            .loss(2, 420, 0, 0, 100).due(0, "recover", 2, 50).due(30, "event", 1, 1, DUE);
+            .loss(1, 400, 0, 0, 100).due(0, "recover", 0, 51).due(0, "recover", 1, 51).due(29, "event", 0, 0, DUE).due(29, "event", 1, 0, DUE)
+            .loss(2, 420, 0, 0, 100).due(0, "recover", 2, 51).due(29, "event", 1, 1, DUE);
     }
 
     // ---- empty and late
@@ -379,6 +379,12 @@ public final class EdgesOfEventsTest {
         // the thirteenth is an EVENT of its own, as one with others would be above the bound
         of("or there are 12: all in one PLACE").twelveLosses().set(EVENT_BOUND, 100).set(SPAN, 30).due(100, "late", 22, 0, 0, 100).due(99, "late", 9, 0, 0, 99)
             .due(100, "late", 15, 0, 0, 101);
+        Run fewest = of("or there are 12: the fewest EVENTS of 13").set(OWN_MODE, 1).set(OWN, 8).set(EVENT_BOUND, 23).set(KIND_BOUND + 1, 0).set(KIND_BOUND + 2, 0);
+        for (int i = 0; i < 7; i++) {
+            fewest.loss(i, 10 * i, 0, 2, 10);
+        }
+        fewest.loss(7, 90, 0, 0, 10).loss(8, 90, 0, 1, 5).loss(9, 90, 0, 0, 12).loss(10, 90, 0, 0, 7).loss(11, 90, 0, 0, 14)
+            .due("0|1|2|3|4|5|6|7 8|9|10 11", "parting", 0, 0).due(43, "ofYear", 0, 3).due(-11, "late", 90, 0, 0, 12);
         of("behind the others").loss(0, 9, 0, 0, 50).set(KIND_BOUND + 1, 0).due(0, "late", 9, 1, 1, 20).due(20, "late", 9, 0, 1, 20).due(-50, "late", 8, 0, 1, 20);
         of("by how much all NETS of its YEAR would be more (or less)").loss(0, 9, 0, 0, 50).loss(1, 400, 0, 0, 70).set(YEAR_BOUND, 60).due(10, "late", 20, 0, 0, 99999)
             .due(0, "late", 20, 0, 0, 0).due(0, "late", 410, 0, 0, 5).due(60, "late", 800, 0, 0, 99999).due(0, "share", 50).due(5, "late", 20, 0, 0, 99999);
