@@ -34,6 +34,8 @@ public final class EdgesOfCallsTest {
         exceptionsAheadOfMinusEight();
         refusedChangesNothing();
         askedChangesNothing();
+        tellsNothingElse();
+        tellsNothingElseOfLosses();
         undoNothing();
         undoTwelve();
         undoEach();
@@ -237,6 +239,10 @@ public final class EdgesOfCallsTest {
         }
         t.bounds(INDEX, 1, 0, 9, "why", 0, 0).bounds(INDEX, 1, 0, 1, "why", 3, 0).unchanged(INDEX, "why", 1, 0).unchanged(INDEX, "why", 4, 0)
             .unchanged(INDEX, "why", -1, 0);
+        // what late() worked out is no EVENT of any YEAR
+        Run late = of("or there is no such EVENT in it: behind late()").due(0, "share", 5).due(86, "late", 9, 0, 0, 90);
+        late.unchangedEach(INDEX, "event", none).unchangedEach(INDEX, "part", none).unchangedEach(INDEX, "taken", none)
+            .unchangedEach(INDEX, "why", new int[][] {{0, 0}, {3, 0}, {-1, 0}, {4, 0}, {0, -1}});
     }
 
     private static void whatIsAsked() {
@@ -307,6 +313,28 @@ public final class EdgesOfCallsTest {
         // with 12 LOSSES and 6 CONTRACTS late() and would() have to find room elsewhere
         of("What one asks for changes nothing: full").twelveLosses().sixContracts().unchangedBy("late", 9, 0, 1, 5000).unchangedBy("late", 14, 0, 1, 5000)
             .unchangedBy("would", 0, 50);
+    }
+
+    private static void tellsNothingElse() {
+        Run t = rich("Tells ..: nothing else");
+        for (int what = 0; what < 14; what++) {
+            t.changesOnly("policy " + what, t.asked("number", what), "policy", what, what == 12 ? 5 : 2);
+        }
+        t.changesOnly("today", 1459, "today", 700).changesOnly("rule", 2, "rule", 1).changesOnly("way", 1, "way", 3)
+            .changesOnly("failed 3, insurers, sum 3", 4, "insurer", 70).changesOnly("sum 1", 200, "sum", 1, 40).changesOnly("sum 3", 70, "sum", 3, 71)
+            .changesOnly("failed, failed 1", 0, "fail", 1, true).changesOnly("failed, failed 2", 1, "fail", 2, false).changesOnly("failed, failed 0", 0, "fail", 0, true)
+            .changesOnly("", 1, "fail", 0, true).changesOnly("contract 4, contracts", 4, "share", 7).changesOnly("contract 4, contracts", 4, "unsign")
+            .changesOnly("contract 4, contracts", 4, "stop", 8, 9).changesOnly("contract 5, contracts", 5, "layer", 1, 2, 3, 4).changesOnly("contract 5, contracts", 5, "unsign")
+            .changesOnly("contract 4, contracts", 4, "unsign").changesOnly("contract 3, contracts", 3, "unsign").changesOnly("knocks", 1, "knock")
+            .changesOnly("contract 3, contracts", 11, "undo");
+    }
+
+    private static void tellsNothingElseOfLosses() {
+        rich("A LOSS comes, a REPORT comes, BACK is told: nothing else")
+            .changesOnly("loss 5 back, loss 5 day, loss 5 kind, loss 5 place, loss 5 reports, loss 5 year, losses", 5, "loss", 800, 1, 2, 33, 900)
+            .changesOnly("loss 2 reports", 2, "report", 2, 900, 7).changesOnly("loss 5 reports", 2, "report", 5, 901, 8).changesOnly("loss 2 back", 60, "recover", 2, 61)
+            .changesOnly("loss 5 back", 0, "recover", 5, 99999).changesOnly("loss 5 reports", 3, "report", 5, 902, 9).changesOnly("loss 2 reports", 1, "unreport", 2)
+            .changesOnly("loss 5 reports", 2, "unreport", 5).changesOnly("", 61, "recover", 2, 61).due(61, "ofYear", 0, 5);
     }
 
     // ---- undo

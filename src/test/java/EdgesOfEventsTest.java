@@ -39,6 +39,7 @@ public final class EdgesOfEventsTest {
         span();
         nextToEachOther();
         yearsAndPlacesPart();
+        eachYearAndPlace();
         ownMode0();
         ownMode1();
         ownMode2();
@@ -104,7 +105,8 @@ public final class EdgesOfEventsTest {
             .due(50, "ofLoss", 0, 6).due(50, "recover", 0, 51).due(50, "ofLoss", 0, 6).due(50, "event", 0, 0, RECOVERED).due(50, "ofYear", 0, 5);
         // the SUM is that of TODAY: with another one another part of BACK counts
         of("it counts up to its SUM: of TODAY").loss(0, 9, 0, 0, 50).due(2, "report", 0, 20, 30).due(0, "recover", 0, 40).due(30, "ofLoss", 0, 6)
-            .due(1459, "today", 19).due(40, "ofLoss", 0, 6).due(19, "today", 8).due(0, "ofLoss", 0, 6).due(0, "ofYear", 0, 5);
+            .due(30, "event", 0, 0, RECOVERED)
+            .due(1459, "today", 19).due(40, "ofLoss", 0, 6).due(40, "event", 0, 0, RECOVERED).due(40, "ofYear", 0, 5).due(19, "today", 8).due(0, "ofLoss", 0, 6).due(0, "ofYear", 0, 5);
     }
 
     private static void waiting() {
@@ -171,6 +173,28 @@ public final class EdgesOfEventsTest {
             .due("1", "parting", 1, 0).due(1, "events", 0).due(1, "events", 1).due(1, "partings", 0, 0);
         of("The LOSSES of a YEAR and a PLACE: PLACES").loss(0, 9, 0, 0, 5).loss(1, 9, 1, 0, 5).loss(2, 9, 2, 0, 5).loss(3, 9, 0, 0, 5).due("0 3", "parting", 0, 0)
             .due("1", "parting", 0, 1).due("2", "parting", 0, 2).due(3, "events", 0).eachEvent(PLACE, 0, 1, 2);
+    }
+
+    private static void eachYearAndPlace() {
+        int[][] losses = {{0, 2, 1}, {3, 0, 0}, {1, 0, 0}, {0, 4, 1}};
+        Run t = of("year: a YEAR, place: a PLACE").set(OWN, 3);
+        int number = 0;
+        for (int year = 0; year < 4; year++) {
+            for (int place = 0; place < 3; place++) {
+                for (int i = 0; i < losses[year][place]; i++) {
+                    t.loss(number++, 365 * year + 50, place, 0, 10);
+                }
+            }
+        }
+        String[][] partings = {{"", "0 1", "2"}, {"3 4 5", "", ""}, {"6", "", ""}, {"", "7 8 9 10", "11"}};
+        for (int year = 0; year < 4; year++) {
+            for (int place = 0; place < 3; place++) {
+                int count = losses[year][place];
+                t.due(partings[year][place], "parting", year, place).due(count == 0 ? 1 : 1 << count - 1, "partings", year, place)
+                    .due(count == 0 ? 0 : 10 * count - 3, "best", year, place, false).due(7 * count, "best", year, place, true);
+            }
+        }
+        t.due(2, "events", 0).due(1, "events", 1).due(1, "events", 2).due(2, "events", 3);
     }
 
     private static void ownMode0() {

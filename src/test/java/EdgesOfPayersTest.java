@@ -10,6 +10,7 @@ public final class EdgesOfPayersTest {
     private static final int BASE = 13;
 
     private static final int OWED = 6;
+    private static final int WHOLE = 7;
     private static final int DUE = 9;
     private static final int NET = 10;
 
@@ -49,10 +50,12 @@ public final class EdgesOfPayersTest {
         ultimateBeyondLong();
         money();
         why();
+        eachEventOfItsYear();
         worst();
         ofYear();
         house();
         sound();
+        soundAtBounds();
         digest();
         Calls.end("edges of payers");
     }
@@ -94,6 +97,8 @@ public final class EdgesOfPayersTest {
             .due(3, "report", 0, 11, 59).parts(30, 29).due(4, "report", 0, 12, 100).parts(38, 62).due(5, "report", 0, 13, 120).parts(45, 75);
         of("if these together are no more than the DUE, each does").sums(30, 70).due(0, "way", 2).loss(0, 9, 0, 0, 99).parts(30, 69).due(2, "report", 0, 10, 100).parts(30, 70)
             .due(3, "report", 0, 11, 101).parts(30, 70).due(4, "report", 0, 12, 71).parts(21, 50).due(5, "report", 0, 13, 30).parts(15, 15);
+        of("each would owe its SUM, but at most the DUE: a DUE of 1").sums(1, 2).due(0, "way", 2).loss(0, 9, 0, 0, 1).parts(1, 0).due(2, "report", 0, 10, 2).parts(1, 1)
+            .due(3, "report", 0, 11, 3).parts(1, 2);
         of("2 ALONE: one INSURER").sums(30).due(0, "way", 2).loss(0, 9, 0, 0, 29).parts(29).due(2, "report", 0, 10, 30).parts(30).due(3, "report", 0, 11, 31).parts(30);
         of("Products are as great as they are: ALONE").sums(99999, 99999, 99999).due(0, "way", 2).loss(0, 9, 0, 0, 99999).parts(33333, 33333, 33333);
     }
@@ -240,6 +245,8 @@ public final class EdgesOfPayersTest {
         // PRICES are rounded down one by one
         of("PRICES of all LAYERS").loss(0, 9, 0, 0, 15).due(0, "layer", 0, 2, 9, 1).due(1, "layer", 10, 10, 9, 1).due(2, "layer", 2, 8, 9, 3).due(1, "ofContract", 0, 0, 1)
             .due(0, "ofContract", 1, 0, 1).due(3, "ofContract", 2, 0, 1).due(4, "ofYear", 0, 8).due(0, "ofYear", 1, 8);
+        of("PRICES of all LAYERS: of just what they took").loss(0, 9, 0, 0, 15).due(0, "layer", 14, 1, 9, 7).due(7, "ofYear", 0, 8).due(1, "layer", 15, 1, 9, 400)
+            .due(7, "ofYear", 0, 8).due(2, "report", 0, 10, 16).due(407, "ofYear", 0, 8).due(0, "ofYear", 1, 8);
         of("0 if it is no LAYER").loss(0, 9, 0, 0, 50).due(0, "share", 50).due(1, "stop", 0, 10).due(0, "ofContract", 0, 0, 1).due(0, "ofContract", 1, 0, 1).due(0, "ofYear", 0, 8);
     }
 
@@ -404,6 +411,30 @@ public final class EdgesOfPayersTest {
             .due("100>50>45>40>30>20=20=20", "why", 0, 0);
     }
 
+    /** Two EVENTS in each of two YEARS, no two of them alike in anything. */
+    private static Run fourEvents(String sentence) {
+        return of(sentence).sums(60, 500).due(0, "way", 1).loss(0, 9, 0, 0, 100).loss(1, 30, 1, 0, 200).loss(2, 800, 2, 0, 300).loss(3, 830, 1, 0, 400).loss(4, 831, 1, 0, 70)
+            .set(OWN, 10).due(0, "share", 20).due(1, "stop", 5, 15);
+    }
+
+    private static void eachEventOfItsYear() {
+        Run t = fourEvents("year: a YEAR, nth: an EVENT of it");
+        int[][] events = {{0, 0}, {0, 1}, {2, 0}, {2, 1}};
+        String[] whys = {"100>100>90>90>90>90=10+80=2+3+5", "200>200>190>190>190>190=20+170=4+12+4", "300>300>290>290>290>290=31+259=6+15+10",
+            "470>470>460>460>460>460=49+411=9+0+40"};
+        for (int i = 0; i < 4; i++) {
+            int year = events[i][0];
+            int nth = events[i][1];
+            String[] parts = whys[i].split("[>=+]");
+            t.due(whys[i], "why", year, nth).due(Integer.valueOf(parts[0]), "event", year, nth, WHOLE).due(Integer.valueOf(parts[5]), "event", year, nth, DUE)
+                .due(Integer.valueOf(parts[6]), "part", year, nth, 0).due(Integer.valueOf(parts[7]), "part", year, nth, 1)
+                .due(Integer.valueOf(parts[8]), "taken", year, nth, 0).due(Integer.valueOf(parts[9]), "taken", year, nth, 1)
+                .due(Integer.valueOf(parts[10]), "event", year, nth, NET).due(i, "event", year, nth, 0).due(i == 3 ? 2 : 1, "event", year, nth, 1);
+        }
+        t.due(30, "paidBy", 0, 0).due(250, "paidBy", 1, 0).due(80, "paidBy", 0, 2).due(670, "paidBy", 1, 2).due(6, "ofContract", 0, 0, 0).due(15, "ofContract", 1, 0, 0)
+            .due(15, "ofContract", 0, 2, 0).due(15, "ofContract", 1, 2, 0).due("2:1:0.40", "worst");
+    }
+
     private static void worst() {
         of("of several the first one by YEARS, then by numbers").due("", "worst").loss(0, 400, 0, 0, 7).due("1:0:0.07", "worst").loss(1, 420, 0, 0, 7).due("1:0:0.07", "worst")
             .loss(2, 9, 0, 0, 7).due("0:0:0.07", "worst").loss(3, 1400, 0, 0, 8).due("3:0:0.08", "worst").loss(4, 430, 0, 0, 9).due("1:2:0.09", "worst");
@@ -432,6 +463,17 @@ public final class EdgesOfPayersTest {
         for (int i = 0; i < 12; i++) {
             t.loss(i, 365 * (i % 2) + 2 * i, 0, i % 3, 31 * i + 5).due(0, "recover", i, 7 * i).due(true, "isSound");
         }
+    }
+
+    /** Each sentence of isSound() where what it goes through comes to its bound. */
+    private static void soundAtBounds() {
+        of("isSound(): each PARTING that holds, of more EVENTS than one").loss(0, 9, 0, 0, 50).loss(1, 10, 0, 0, 40).loss(2, 14, 0, 0, 30).loss(3, 20, 0, 0, 60).loss(4, 22, 0, 0, 7)
+            .set(OWN, 20).due("0 1|2|3 4", "parting", 0, 0).due(true, "isSound").set(EVENT_BOUND, 60).due(true, "isSound").loss(5, 372, 0, 0, 90).loss(6, 373, 0, 0, 5)
+            .due(true, "isSound");
+        of("isSound(): the other way round, with a KIND BOUND that is used up").loss(0, 9, 0, 0, 50).loss(1, 20, 0, 0, 40).loss(2, 30, 0, 1, 30).set(5, 60).set(YEAR_OWN, 80)
+            .due(10, "ofYear", 0, 2).due(true, "isSound").set(YEAR_OWN, 90).due(true, "isSound").set(YEAR_OWN, 91).due(1, "ofYear", 0, 9).due(true, "isSound");
+        of("isSound(): PARTS as great as the SUMS, LAYERS that are used up").sums(30, 20).loss(0, 9, 0, 0, 50).loss(1, 20, 0, 0, 51).due(0, "layer", 0, 10, 0, 0)
+            .due(1, "layer", 10, 20, 9, 0).due(0, "ofContract", 0, 0, 2).due(true, "isSound").due(0, "fail", 0, true).due(true, "isSound").due(0, "recover", 0, 70).due(true, "isSound");
     }
 
     /** The checksum, put together as the document tells it, from what one asks for. */
@@ -497,6 +539,8 @@ public final class EdgesOfPayersTest {
         Run t = of("which wraps around as a 64-bit integer").sums(90, 70, 50, 30).loss(0, 9, 0, 0, 500).loss(1, 400, 1, 2, 70).due(2, "report", 0, 800, 433).due(0, "share", 33)
             .due(1, "layer", 10, 20, 1, 9).due(2, "stop", 3, 4).set(WAIT, 3).set(BASE, 999).due(0, "fail", 1, true).due(0, "recover", 0, 77).due(1, "knock").due(0, "way", 3);
         t.due(digestOf(t), "digest");
+        Run four = fourEvents("which wraps around as a 64-bit integer: two EVENTS in each of two YEARS");
+        four.due(digestOf(four), "digest");
         Run bare = of("which wraps around as a 64-bit integer: with what does not COUNT").loss(0, 1200, 0, 0, 0).loss(1, 9, 2, 1, 10).loss(2, 13, 2, 1, 10).due(1459, "today", 900);
         bare.due(digestOf(bare), "digest").due(0, "way", 2).due(digestOf(bare), "digest");
     }

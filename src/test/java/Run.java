@@ -1,6 +1,9 @@
 import java.util.ArrayList;
 import java.util.Arrays;
 import java.util.List;
+import java.util.Map;
+import java.util.TreeMap;
+import java.util.TreeSet;
 
 /** A run of calls on one tower, each with the answer that is due. It is begun with the sentence that it tests. */
 final class Run {
@@ -205,6 +208,18 @@ final class Run {
         return this;
     }
 
+    /** The call answers what is due, and of all that was told just this is another one behind it; the call then stands. */
+    Run changesOnly(String names, Object due, String name, Object... arguments) {
+        Map<String, String> ahead = told(again());
+        due(due, name, arguments);
+        Map<String, String> behind = told(again());
+        TreeSet<String> changed = new TreeSet<>(ahead.keySet());
+        changed.addAll(behind.keySet());
+        changed.removeIf(each -> ahead.containsKey(each) && ahead.get(each).equals(behind.get(each)));
+        Calls.check(sentence + ": what " + Calls.told(name, arguments) + " changes", String.join(", ", changed), names);
+        return this;
+    }
+
     Object asked(String name, Object... arguments) {
         return tower.answer(call(name, arguments));
     }
@@ -233,18 +248,18 @@ final class Run {
     private String now(Object[]... more) {
         StringBuilder out = new StringBuilder();
         seeWhatIsAsked(again(more), out);
-        seeWhatIsTold(again(more), out);
-        return out.toString();
+        return out.append(' ').append(told(again(more))).toString();
     }
 
     private static void seeWhatIsAsked(Counted it, StringBuilder out) {
-        for (int what = 0; what <= 10; what++) {
-            out.append(what == 3 ? "" : it.answer("house", what) + " ");
+        out.append(it.answer("house", 7)).append(' ').append(it.answer("house", 8)).append(' ').append(it.answer("worst"));
+        int losses = it.number("house", 0);
+        for (int i = 0; i < losses; i++) {
+            out.append(" loss");
+            for (int what : new int[] {3, 4, 6, 8}) {
+                out.append(' ').append(it.answer("ofLoss", i, what));
+            }
         }
-        for (int what = 0; what <= 13; what++) {
-            out.append(it.answer("number", what)).append(' ');
-        }
-        out.append(it.answer("worst"));
         for (int year = 0; year < 4; year++) {
             seeYear(it, year, out);
         }
@@ -264,32 +279,49 @@ final class Run {
         }
     }
 
-    private static void seeWhatIsTold(Counted it, StringBuilder out) {
+    /** All that was told, by names. */
+    private static Map<String, String> told(Counted it) {
+        Map<String, String> told = new TreeMap<>();
+        String[] house = {"losses", "insurers", "contracts", null, "today", "way", "rule", null, null, "failed", "knocks"};
+        for (int what = 0; what < house.length; what++) {
+            if (house[what] != null) {
+                told.put(house[what], it.answer("house", what).toString());
+            }
+        }
+        for (int what = 0; what <= 13; what++) {
+            told.put("policy " + what, it.answer("number", what).toString());
+        }
         int contracts = it.number("house", 2);
         for (int i = 0; i < contracts; i++) {
-            out.append(' ').append(it.answer("contract", i));
+            told.put("contract " + i, it.answer("contract", i).toString());
         }
         int insurers = it.number("house", 1);
         for (int i = 0; i < insurers; i++) {
-            out.append(" insurer ").append(it.answer("sum", i, 1)).append(' ').append(it.answer("fail", i, true));
+            told.put("sum " + i, it.answer("sum", i, 1).toString());
+            told.put("failed " + i, it.answer("fail", i, true).toString());
         }
         int losses = it.number("house", 0);
         for (int i = 0; i < losses; i++) {
-            out.append(" loss");
-            for (int what = 0; what <= 8; what++) {
-                out.append(' ').append(it.answer("ofLoss", i, what));
-            }
-            out.append(' ').append(it.answer("recover", i, 0));
-            seeReports(it, i, out);
+            tellLoss(it, i, told);
         }
+        return told;
     }
 
-    private static void seeReports(Counted it, int loss, StringBuilder out) {
-        int reports = it.number("ofLoss", loss, 5);
-        for (int i = 0; i < reports; i++) {
-            out.append(' ').append(it.answer("sumAt", loss, 1459)).append(' ').append(it.answer("sumAt", loss, 400));
+    private static void tellLoss(Counted it, int loss, Map<String, String> told) {
+        String[] facts = {"day", "place", "kind", null, null, null, null, "year"};
+        for (int what = 0; what < facts.length; what++) {
+            if (facts[what] != null) {
+                told.put("loss " + loss + " " + facts[what], it.answer("ofLoss", loss, what).toString());
+            }
+        }
+        told.put("loss " + loss + " back", it.answer("recover", loss, 0).toString());
+        StringBuilder reports = new StringBuilder();
+        int count = it.number("ofLoss", loss, 5);
+        for (int i = 0; i < count; i++) {
+            reports.append(' ').append(it.answer("sumAt", loss, 1459)).append(' ').append(it.answer("sumAt", loss, 400));
             it.answer("unreport", loss);
         }
+        told.put("loss " + loss + " reports", count + ":" + reports);
     }
 
     private static void seeWhatIsUndone(Counted it, StringBuilder out) {
