@@ -1237,7 +1237,6 @@ public final class Claimtower {
         void shareDue(State state, int due) {
             int amount = Math.min(due, allSums(state));
             parts.fill(0);
-            weights.fill(0);
             if (state.way == WAY_ALIKE) {
                 rooms.become(state.sums);
                 spread(amount, state.insurers);
@@ -1245,9 +1244,9 @@ public final class Claimtower {
                 weighBySums(state, MOST_COINS);
                 split(amount, state.insurers);
             } else if (state.way == WAY_ALONE) {
-                // SPLIT of all that they would owe alone gives each one just that
+                // together these are never below the amount; as much as it, SPLIT gives each one just its own
                 weighBySums(state, amount);
-                split(Math.min(amount, weights.total()), state.insurers);
+                split(amount, state.insurers);
             } else {
                 takeByNumbers(state, amount);
             }
